@@ -11,6 +11,7 @@ public final class TuneFinder {
     private static final int MOST_PITCH = 127;
     private static final int MOST_LENGTH = 64;
     private static final int MOST_K = 4;
+    private static final int LONGEST_NEAR = MOST_ASKED + MOST_K;
 
     private static final int EXACT = 0;
     private static final int MELODY = 1;
@@ -622,14 +623,14 @@ public final class TuneFinder {
 
         Near() {
             weights = new int[MOST_ASKED];
-            here = new int[MOST_NOTES + 1];
-            behind = new int[MOST_NOTES + 1];
+            here = new int[LONGEST_NEAR + 1];
+            behind = new int[LONGEST_NEAR + 1];
         }
 
         void begin(Notes query, Notes notes, int k) {
             most = k * CHANGE;
             // a passage of more notes has more than k steps too many
-            longest = Math.min(query.count + k, MOST_NOTES);
+            longest = query.count + k;
             measure(query, notes, 0);
         }
 
