@@ -433,6 +433,17 @@ public final class LimitsTest {
         found(x, 4, 4, 0, "");
         Tunes.hum(x, 0, 127, 0);
         found(x, 4, 4, 1, "7,4,11,0,3/11");
+        TuneFinder y = new TuneFinder();
+        Tunes.shown(y, 0, 60, 62, 65, 90);
+        // no note of the tune is two of the query's, and none comes again behind a later one
+        Tunes.hum(y, 0, 0, 2);
+        found(y, 4, 4, 0, "");
+        Tunes.hum(y, 0, 2, 2);
+        found(y, 4, 4, 0, "");
+        Tunes.hum(y, 0, 2, 0, 5);
+        found(y, 4, 4, 0, "");
+        Tunes.hum(y, 0, 2, 5);
+        found(y, 4, 0, 1, "0,0,3,60,1/1");
     }
 
     private static void outlineBeyondThePitches() {
