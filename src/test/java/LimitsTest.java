@@ -38,6 +38,7 @@ public final class LimitsTest {
         nearByStepsTakenOut();
         nearByOtherSteps();
         nearOfTwoNotes();
+        shortestPassage();
         ties();
         thirtyKept();
         mostFound();
@@ -45,6 +46,7 @@ public final class LimitsTest {
         stepBehindTheLast();
         contourEnds();
         leastOfRepeats();
+        twoPlacesAtLeast();
         endsOfTheSteps();
         noSuchRepeat();
         canonOfTwoAndTwenty();
@@ -532,6 +534,17 @@ public final class LimitsTest {
         found(y, 5, 4, 0, "");
     }
 
+    private static void shortestPassage() {
+        sentence("A PASSAGE of a tune: SPAN (2 or more) of its notes one behind the other, from some place on.");
+        TuneFinder x = new TuneFinder();
+        Tunes.shown(x, 0, 60, 70, 90);
+        // the one step taken out would make a row without steps, but one note is no passage
+        Tunes.hum(x, 0, 1);
+        found(x, 5, 0, 0, "");
+        found(x, 5, 1, 2, "0,0,2,60,1/4 0,1,2,70,1/4");
+        found(x, 5, 4, 2, "0,0,2,60,1/4 0,1,2,70,1/4");
+    }
+
     private static void ties() {
         sentence("the greater score first; of equal ones, the lesser tune, then the lesser place,"
                 + " then the lesser span.");
@@ -668,6 +681,20 @@ public final class LimitsTest {
             int from = least;
             check.due(19 - least, "repeats(0, " + least + ")", () -> x.repeats(0, from));
         }
+    }
+
+    private static void twoPlacesAtLeast() {
+        sentence("that is in the tune's steps at two places at least, (these may overlap)");
+        TuneFinder x = new TuneFinder();
+        Tunes.hidden(x, 0, climb(60, 1, 2, 3));
+        check.same("", Tunes.repeats(x, 0, 1), "each step at one place");
+        x.note(0, 67, 1);
+        check.same("0,1,2", Tunes.repeats(x, 0, 1), "1 at two places");
+        x.note(0, 68, 1);
+        check.same("0,1,3", Tunes.repeats(x, 0, 1), "1 at three places");
+        // 4 4 at two places with a step in common
+        Tunes.hidden(x, 1, climb(60, 4, 4, 4));
+        check.same("0,1,3 0,2,2", Tunes.repeats(x, 1, 1), "places that overlap");
     }
 
     private static void endsOfTheSteps() {
